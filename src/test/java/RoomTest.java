@@ -1,0 +1,36 @@
+import com.sun.management.ThreadMXBean;
+import java.lang.management.ManagementFactory;
+
+/** All calls of a run live in one room: no call that throws nothing makes objects. */
+public final class RoomTest {
+    private static final int CALLS = 500;
+    private static final long MOST_BYTES = 16 * 1024;
+
+    public static void main(String[] args) {
+        Due due = new Due();
+        ThreadMXBean beans = (ThreadMXBean) ManagementFactory.getThreadMXBean();
+        long thread = Thread.currentThread().getId();
+        GridRouter router = new GridRouter(7, 7, 3, 0);
+        for (int net = 0; net < 6; net++) {
+            router.net(0, net, 0, 0, 8 - net, 8);
+        }
+        use(router, 1);
+        long before = beans.getThreadAllocatedBytes(thread);
+        use(router, CALLS);
+        long bytes = beans.getThreadAllocatedBytes(thread) - before;
+        due.is("few bytes are made in " + CALLS + " calls (" + bytes + ")", bytes <= MOST_BYTES, true);
+        due.end();
+    }
+
+    private static void use(GridRouter router, int calls) {
+        for (int i = 0; i < calls; i++) {
+            switch (i % 5) {
+                case 0 -> router.push(i % 6);
+                case 1 -> router.route(i % 6);
+                case 2 -> router.faults(i % 4);
+                case 3 -> router.shape(router.shapes() - 1, 3);
+                default -> router.all(i % 2 == 0, 20);
+            }
+        }
+    }
+}
