@@ -54,7 +54,7 @@ public final class GridRouter {
         if (first == second || rules.isBarred(first, nets.count) || rules.isBarred(second, nets.count)) {
             throw new IllegalArgumentException("not a place for a pin");
         }
-        if (nets.count == MOST_NETS) {
+        if (nets.count >= MOST_NETS) {
             throw new IllegalStateException("no more nets");
         }
         int number = nets.add(first, second);

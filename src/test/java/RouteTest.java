@@ -24,6 +24,16 @@ public final class RouteTest {
         due.is("route back", up.route(0), 5);
         due.picture("x more by 1 before y", up, 4, 3,
                 "0000 .... ....", "...0 .... ....", "...0 .... ....");
+        GridRouter ring = new GridRouter(1, 1, 3, 0);
+        ring.net(0, 1, 0, 0, 1, 2);
+        ring.block(0, 1, 1);
+        due.is("route round on either side", ring.route(0), 4);
+        due.picture("x less before x more", ring, 3, 3, "00. ... ...", "0.. ... ...", "00. ... ...");
+        GridRouter rise = new GridRouter(2, 1, 3, 0);
+        rise.net(0, 3, 0, 0, 0, 2);
+        due.is("route to a lower left", rise.route(0), 5);
+        due.picture("x more before y less", rise, 4, 3,
+                "...0 .... ....", "...0 .... ....", "0000 .... ....");
         GridRouter detour = new GridRouter(2, 1, 3, 0);
         detour.net(0, 0, 1, 0, 3, 1);
         detour.block(0, 1, 1);
