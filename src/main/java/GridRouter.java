@@ -275,10 +275,12 @@ public final class GridRouter {
         }
 
         /**
-         * A net's cells and vias go, but for its pins. A pin that was painted over is
-         * no cell of the net: it stays what it is, and so does a via there.
+         * Of a net its pins alone are left, both of them. A pin that was painted over is
+         * taken back first: a via there is the net's from then on, so it must go as well.
          */
         void strip(int net) {
+            owner[nets.first[net]] = net;
+            owner[nets.second[net]] = net;
             for (int cell = 0; cell < grid.cells; cell++) {
                 if (owner[cell] == net) {
                     vias[grid.placeOf(cell)] = false;

@@ -21,6 +21,9 @@ public final class AllTest {
         router.paint(0, 1, 2, 0);
         router.paint(1, 1, 2, 1);
         router.paint(0, 1, 0, 1);
+        router.paint(0, 0, 0, 1);
+        router.paint(1, 0, 0, 0);
+        router.paint(1, 3, 0, -1);
         router.stitch(1, 2);
         router.stitch(3, 0);
         router.stitch(2, 1);
@@ -104,8 +107,11 @@ public final class AllTest {
         router.block(1, 1, 1);
         router.block(0, 1, 0);
         router.block(0, 1, 1);
+        router.paint(1, 0, 0, -1);
+        router.paint(1, 2, 0, 0);
+        router.stitch(0, 0);
         due.is("a net that has no way at all", router.all(false, 20), 2);
-        due.picture("its pins alone are left", router, 3, 2, "0.1 2.2 ...", "0.1 ... ...");
+        due.picture("its pins alone are left, both of them", router, 3, 2, "0.1 2.2 ...", "0.1 ... ...");
     }
 
     /** Whoever is not joined in the end was routed once more, and had no way. */

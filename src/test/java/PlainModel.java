@@ -310,7 +310,11 @@ final class PlainModel {
                 vias.remove(cell.place());
             }
         }
-        owner.entrySet().removeIf(entry -> entry.getValue() == net && !nets.get(net).hasPin(entry.getKey()));
+        owner.values().removeIf(of -> of == net);
+        for (Cell pin : List.of(nets.get(net).first, nets.get(net).second)) {
+            owner.put(pin, net);
+            vias.remove(pin.place());
+        }
     }
 
     private void become(Way way, int net) {

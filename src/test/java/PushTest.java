@@ -7,7 +7,8 @@ public final class PushTest {
         goesRoundIfThatIsCheaper();
         pushesOutBesideItsWay();
         countsTakenPins();
-        pushesOutFromItsOwnPin();
+        takesItsPinsBack();
+        pushedOutTakeTheirPinsBack();
         stopsAtWhatIsBarred();
         refuses();
         due.end();
@@ -101,7 +102,7 @@ public final class PushTest {
         due.is("and its taker is pushed out", router.cell(0, 3, 1), -1);
     }
 
-    private static void pushesOutFromItsOwnPin() {
+    private static void takesItsPinsBack() {
         GridRouter router = new GridRouter(2, 2, 3, 0);
         router.net(0, 0, 0, 0, 3, 0);
         router.net(1, 0, 3, 1, 3, 3);
@@ -110,9 +111,47 @@ public final class PushTest {
         router.paint(0, 3, 3, 1);
         router.paint(0, 0, 0, 2);
         router.paint(0, 0, 2, 2);
-        due.is("a second pin of another net costs 10", router.push(0), 13);
-        due.picture("those who held its pins are pushed out", router, 4, 4,
-                "0000 .... ....", ".... 2..2 ....", ".... .... ....", ".... 1..1 ....");
+        router.stitch(3, 0);
+        due.is("a second pin that was painted over is not taken", router.push(0), 3);
+        due.picture("those who held nothing but its pins are not pushed out", router, 4, 4,
+                "0000 .... ....", ".... 2..2 ....", "2... .... ....", "...1 1..1 ....");
+        for (int y = 0; y < 4; y++) {
+            router.block(0, 1, y);
+            router.block(1, 1, y);
+        }
+        router.paint(0, 0, 0, -1);
+        router.paint(0, 3, 0, 1);
+        router.stitch(0, 0);
+        due.is("no way for a push", router.push(0), -1);
+        due.picture("its pins alone are left, both of them", router, 4, 4,
+                "0..0 .... ....", ".... 2..2 ....", "2... .... ....", "...1 1..1 ....");
+    }
+
+    private static void pushedOutTakeTheirPinsBack() {
+        GridRouter router = new GridRouter(3, 2, 3, 0);
+        router.net(0, 0, 0, 0, 4, 0);
+        router.net(1, 0, 3, 1, 4, 3);
+        router.net(1, 0, 2, 1, 4, 2);
+        router.net(1, 0, 1, 1, 4, 1);
+        for (int y = 0; y < 4; y++) {
+            router.paint(0, 1, y, 1);
+            router.paint(1, 1, y, 1);
+            router.paint(0, 3, y, 2);
+            router.paint(1, 3, y, 2);
+        }
+        router.paint(1, 0, 3, 2);
+        router.paint(1, 4, 3, 3);
+        router.paint(0, 4, 3, 3);
+        router.paint(1, 0, 2, 1);
+        router.paint(1, 4, 2, -1);
+        router.paint(1, 0, 1, -1);
+        for (int y = 0; y < 4; y++) {
+            router.stitch(0, y);
+            router.stitch(4, y);
+        }
+        due.is("push over two wires", router.push(0), 24);
+        due.picture("both have their pins alone, net 3 stays as it is painted", router, 5, 4,
+                "00000 ..... .....", "..... ....3 #...#", "..... 2...2 .....", "....3 1...1 .....");
     }
 
     private static void stopsAtWhatIsBarred() {

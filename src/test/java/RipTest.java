@@ -6,6 +6,7 @@ public final class RipTest {
         leavesThePins();
         takesViasOfItsCells();
         keepsWhatIsNotIts();
+        takesItsPinsBack();
         refuses();
         due.end();
     }
@@ -43,19 +44,35 @@ public final class RipTest {
                 "0..0 .... ....", ".... 1..1 .##.");
     }
 
-    private static void keepsWhatIsNotIts() {
+    private static GridRouter paintedOver() {
         GridRouter router = new GridRouter(2, 0, 0, 0);
         router.net(0, 0, 0, 0, 3, 0);
         router.net(1, 0, 1, 1, 3, 1);
         router.paint(0, 0, 0, 1);
+        router.paint(1, 0, 0, 1);
         router.paint(0, 3, 0, -1);
-        router.stitch(0, 0);
-        router.stitch(3, 0);
-        router.rip(0);
-        due.picture("pins painted over are no cells of the net", router, 4, 2,
-                "1... .... #..#", ".... 1..1 ....");
+        for (int x = 0; x < 4; x++) {
+            router.stitch(x, 0);
+        }
+        return router;
+    }
+
+    private static void keepsWhatIsNotIts() {
+        GridRouter router = paintedOver();
         router.rip(1);
-        due.picture("another's pin is no pin of net 1", router, 4, 2, ".... .... ...#", ".... 1..1 ....");
+        due.picture("another's pin is no pin of net 1, and not given back by its rip", router, 4, 2,
+                ".... .... .###", ".... 1..1 ....");
+    }
+
+    private static void takesItsPinsBack() {
+        GridRouter router = paintedOver();
+        router.rip(0);
+        due.picture("both pins are left, and no via at them", router, 4, 2,
+                "0..0 1... .##.", ".... 1..1 ....");
+        router.rip(0);
+        due.picture("the same again", router, 4, 2, "0..0 1... .##.", ".... 1..1 ....");
+        router.rip(1);
+        due.picture("what held a pin is gone", router, 4, 2, "0..0 .... .##.", ".... 1..1 ....");
     }
 
     private static void refuses() {
