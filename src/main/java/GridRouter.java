@@ -274,21 +274,25 @@ public final class GridRouter {
             Arrays.fill(owner, NONE);
         }
 
-        /**
-         * Of a net its pins alone are left, both of them. A pin that was painted over is
-         * taken back first: a via there is the net's from then on, so it must go as well.
-         */
+        /** Of a net its pins alone are left, both of them, also one that was painted over. */
         void strip(int net) {
-            owner[nets.first[net]] = net;
-            owner[nets.second[net]] = net;
+            clear(net);
+            restorePins(net);
+        }
+
+        void clear(int net) {
             for (int cell = 0; cell < grid.cells; cell++) {
                 if (owner[cell] == net) {
+                    owner[cell] = NONE;
                     vias[grid.placeOf(cell)] = false;
-                    if (nets.pinOwner[cell] != net) {
-                        owner[cell] = NONE;
-                    }
                 }
             }
+        }
+
+        // Only behind clear: a via at a pin that was painted over is not the net's, and stays.
+        void restorePins(int net) {
+            owner[nets.first[net]] = net;
+            owner[nets.second[net]] = net;
         }
     }
 
@@ -581,10 +585,17 @@ public final class GridRouter {
             }
         }
 
+        // All are cleared before one has its pins back: a pin that another of them was
+        // painted over is that other one's cell until then, and a via there its via.
         private void stripPushedOut() {
             for (int other = 0; other < nets.count; other++) {
                 if (pushedOut[other]) {
-                    layout.strip(other);
+                    layout.clear(other);
+                }
+            }
+            for (int other = 0; other < nets.count; other++) {
+                if (pushedOut[other]) {
+                    layout.restorePins(other);
                 }
             }
         }

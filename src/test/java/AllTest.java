@@ -4,6 +4,7 @@ public final class AllTest {
 
     public static void main(String[] args) {
         beginsAnew();
+        viasAtPaintedPinsGo();
         standsByNumberOrSpan();
         equalSpansStandByNumber();
         spanCountsLayers();
@@ -30,6 +31,28 @@ public final class AllTest {
         due.is("all", router.all(false, 0), 2);
         due.picture("only ways are left, and a via that was nobody's", router, 4, 3,
                 "0000 1111 ....", ".... .... ..#.", ".... .... ....");
+    }
+
+    /** All have their pins back before the first one is routed, so that the vias there are theirs by then. */
+    private static void viasAtPaintedPinsGo() {
+        GridRouter router = new GridRouter(3, 1, 0, 0);
+        router.net(0, 0, 0, 0, 4, 0);
+        router.net(0, 0, 2, 0, 4, 2);
+        router.paint(0, 0, 0, -1);
+        router.paint(0, 4, 0, 1);
+        router.paint(0, 0, 2, 0);
+        router.paint(0, 4, 2, -1);
+        int[][] places = {{0, 0}, {4, 0}, {0, 2}, {4, 2}};
+        for (int[] at : places) {
+            router.stitch(at[0], at[1]);
+        }
+        for (int y = 0; y < 3; y++) {
+            router.block(0, 2, y);
+            router.block(1, 2, y);
+        }
+        due.is("all, without a way for anybody", router.all(false, 20), 0);
+        due.picture("pins alone are left, and no vias at them", router, 5, 3,
+                "0...0 ..... .....", "..... ..... .....", "1...1 ..... .....");
     }
 
     private static GridRouter crossing() {

@@ -97,7 +97,7 @@ final class PlainModel {
 
     int route(int net) {
         known(net);
-        gone(net);
+        gone(Set.of(net));
         Way way = leastWay(net, false);
         if (way == null) {
             return -1;
@@ -117,9 +117,9 @@ final class PlainModel {
         }
         List<Integer> line = new ArrayList<>();
         for (int net = 0; net < nets.size(); net++) {
-            gone(net);
             line.add(net);
         }
+        gone(new HashSet<>(line));
         if (sorted) {
             line.sort((a, b) -> Integer.compare(nets.get(a).span(), nets.get(b).span()));
         }
@@ -150,7 +150,7 @@ final class PlainModel {
 
     void rip(int net) {
         known(net);
-        gone(net);
+        gone(Set.of(net));
     }
 
     void paint(int layer, int x, int y, int net) {
@@ -304,16 +304,17 @@ final class PlainModel {
         return isOthers(cell, net) || spaced && neighbours(cell).stream().anyMatch(near -> isOthers(near, net));
     }
 
-    private void gone(int net) {
+    /** What is theirs is theirs before any of them has its pins back: vias at painted pins, too. */
+    private void gone(Set<Integer> some) {
         for (Cell cell : cells) {
-            if (owner.getOrDefault(cell, -1) == net) {
+            if (some.contains(owner.getOrDefault(cell, -1))) {
                 vias.remove(cell.place());
             }
         }
-        owner.values().removeIf(of -> of == net);
-        for (Cell pin : List.of(nets.get(net).first, nets.get(net).second)) {
-            owner.put(pin, net);
-            vias.remove(pin.place());
+        owner.values().removeIf(some::contains);
+        for (int net : some) {
+            owner.put(nets.get(net).first, net);
+            owner.put(nets.get(net).second, net);
         }
     }
 
@@ -330,7 +331,7 @@ final class PlainModel {
     private record Push(int cost, Set<Integer> out) { }
 
     private Push pushedOut(int net) {
-        gone(net);
+        gone(Set.of(net));
         Set<Integer> out = new TreeSet<>();
         Way way = leastWay(net, true);
         if (way == null) {
@@ -345,7 +346,7 @@ final class PlainModel {
                 }
             }
         }
-        out.forEach(this::gone);
+        gone(out);
         become(way, net);
         return new Push(way.cost, out);
     }

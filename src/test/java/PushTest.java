@@ -114,7 +114,7 @@ public final class PushTest {
         router.stitch(3, 0);
         due.is("a second pin that was painted over is not taken", router.push(0), 3);
         due.picture("those who held nothing but its pins are not pushed out", router, 4, 4,
-                "0000 .... ....", ".... 2..2 ....", "2... .... ....", "...1 1..1 ....");
+                "0000 .... ...#", ".... 2..2 ....", "2... .... ....", "...1 1..1 ....");
         for (int y = 0; y < 4; y++) {
             router.block(0, 1, y);
             router.block(1, 1, y);
@@ -123,7 +123,10 @@ public final class PushTest {
         router.paint(0, 3, 0, 1);
         router.stitch(0, 0);
         due.is("no way for a push", router.push(0), -1);
-        due.picture("its pins alone are left, both of them", router, 4, 4,
+        due.picture("its pins alone are left, both of them, and vias that were not its", router, 4, 4,
+                "0..0 .... #..#", ".... 2..2 ....", "2... .... ....", "...1 1..1 ....");
+        due.is("still no way for a push", router.push(0), -1);
+        due.picture("the vias at its pins were its own by now", router, 4, 4,
                 "0..0 .... ....", ".... 2..2 ....", "2... .... ....", "...1 1..1 ....");
     }
 
@@ -150,8 +153,8 @@ public final class PushTest {
             router.stitch(4, y);
         }
         due.is("push over two wires", router.push(0), 24);
-        due.picture("both have their pins alone, net 3 stays as it is painted", router, 5, 4,
-                "00000 ..... .....", "..... ....3 #...#", "..... 2...2 .....", "....3 1...1 .....");
+        due.picture("both have their pins alone; net 3's vias and nobody's stay, also at such pins", router, 5, 4,
+                "00000 ..... .....", "..... ....3 #...#", "..... 2...2 ....#", "....3 1...1 ....#");
     }
 
     private static void stopsAtWhatIsBarred() {

@@ -67,10 +67,11 @@ public final class RipTest {
     private static void takesItsPinsBack() {
         GridRouter router = paintedOver();
         router.rip(0);
-        due.picture("both pins are left, and no via at them", router, 4, 2,
-                "0..0 1... .##.", ".... 1..1 ....");
+        due.picture("both pins are left, and the vias there, which were not its", router, 4, 2,
+                "0..0 1... ####", ".... 1..1 ....");
         router.rip(0);
-        due.picture("the same again", router, 4, 2, "0..0 1... .##.", ".... 1..1 ....");
+        due.picture("a second rip takes the vias, which are its by now", router, 4, 2,
+                "0..0 1... .##.", ".... 1..1 ....");
         router.rip(1);
         due.picture("what held a pin is gone", router, 4, 2, "0..0 .... .##.", ".... 1..1 ....");
     }

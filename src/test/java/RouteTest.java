@@ -102,13 +102,18 @@ public final class RouteTest {
         router.paint(0, 3, 1, 1);
         router.stitch(3, 0);
         due.is("its pins are its own before a way is looked for, and free beside a wire", router.route(0), 3);
-        due.picture("all its cells, and no via", router, 4, 2, "0000 .... ....", "...1 1..1 ....");
+        due.picture("all its cells, and a via that was another's", router, 4, 2,
+                "0000 .... ...#", "...1 1..1 ....");
         router.paint(0, 0, 0, -1);
         router.paint(0, 3, 0, 1);
         router.paint(0, 1, 1, 1);
-        router.stitch(3, 0);
+        router.stitch(0, 0);
         due.is("what is beside a wire is not free", router.route(0), -1);
-        due.picture("only its pins are left, both of them", router, 4, 2, "0..0 .... ....", ".1.1 1..1 ....");
+        due.picture("only its pins are left, both of them, and vias that were not its", router, 4, 2,
+                "0..0 .... #..#", ".1.1 1..1 ....");
+        due.is("still no way", router.route(0), -1);
+        due.picture("the vias at its pins were its own by now", router, 4, 2,
+                "0..0 .... ....", ".1.1 1..1 ....");
         GridRouter close = new GridRouter(0, 0, 0, 1);
         close.net(0, 0, 0, 0, 1, 0);
         close.net(1, 0, 1, 1, 1, 1);
