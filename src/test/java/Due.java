@@ -1,3 +1,6 @@
+import java.util.function.Consumer;
+import java.util.function.Supplier;
+
 /** Gathers the answers of one test that are not the ones due. */
 final class Due {
     private int wrong = 0;
@@ -31,6 +34,15 @@ final class Due {
             return;
         }
         report(call + " threw nothing, due is " + want.getName());
+    }
+
+    /** A refused call throws and changes nothing; made anew each time, since 512 calls are all of an object. */
+    void refuses(String call, Class<? extends RuntimeException> want, Supplier<GridRouter> made,
+            Consumer<GridRouter> run) {
+        GridRouter router = made.get();
+        String before = State.of(router);
+        fails(call, want, () -> run.accept(router));
+        is("the state after " + call, State.of(router), before);
     }
 
     /** Both layers, row by row: a cell's net or '.', then a via's place as '#'. */

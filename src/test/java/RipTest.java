@@ -7,7 +7,10 @@ public final class RipTest {
         takesViasOfItsCells();
         keepsWhatIsNotIts();
         takesItsPinsBack();
-        refuses();
+        takesEachPinBack();
+        leavesPinsAlone();
+        takesAWholeLayout();
+        refusesWhatIsNoNet();
         due.end();
     }
 
@@ -76,12 +79,75 @@ public final class RipTest {
         due.picture("what held a pin is gone", router, 4, 2, "0..0 .... .##.", ".... 1..1 ....");
     }
 
-    private static void refuses() {
-        GridRouter router = new GridRouter(0, 0, 0, 0);
-        due.fails("rip(0) without nets", IndexOutOfBoundsException.class, () -> router.rip(0));
-        router.net(0, 0, 0, 0, 1, 1);
-        for (int net : new int[] {-1, 1, Integer.MAX_VALUE, Integer.MIN_VALUE}) {
-            due.fails("rip(" + net + ")", IndexOutOfBoundsException.class, () -> router.rip(net));
+    private static void takesEachPinBack() {
+        for (int far = 0; far < 2; far++) {
+            for (int first = -1; first < 2; first++) {
+                for (int second = -1; second < 2; second++) {
+                    GridRouter router = new GridRouter(1, 0, 0, far);
+                    router.net(0, 0, 0, 0, 2, 0);
+                    router.net(1, 0, 1, 1, 2, 1);
+                    router.paint(0, 0, 0, first);
+                    router.paint(0, 2, 0, second);
+                    router.paint(1, 1, 0, 0);
+                    router.paint(0, 1, 1, 1);
+                    router.rip(0);
+                    due.picture("pins painted " + Edges.told(first, second), router, 3, 2,
+                            "0.0 ... ...", ".1. 1.1 ...");
+                }
+            }
         }
+    }
+
+    private static void leavesPinsAlone() {
+        GridRouter router = new GridRouter(1, 0, 0, 0);
+        router.net(0, 0, 0, 0, 2, 0);
+        router.net(1, 0, 1, 1, 2, 1);
+        router.block(0, 1, 0);
+        router.stitch(1, 1);
+        String state = State.of(router);
+        router.rip(0);
+        router.rip(1);
+        due.is("nothing but pins, nothing is gone", State.of(router), state);
+    }
+
+    private static void takesAWholeLayout() {
+        GridRouter router = new GridRouter(0, 0, 0, 1);
+        router.net(0, 0, 0, 1, 1, 1);
+        router.net(0, 1, 1, 1, 0, 0);
+        for (int y = 0; y < 2; y++) {
+            for (int x = 0; x < 2; x++) {
+                router.paint(0, x, y, 0);
+                router.paint(1, x, y, 0);
+                router.stitch(x, y);
+            }
+        }
+        router.block(0, 1, 0);
+        router.rip(0);
+        due.picture("all cells and vias were its own", router, 2, 2, "0. .. ..", ".. .0 ..");
+        due.is("a block stays", router.block(0, 1, 0), false);
+    }
+
+    private static GridRouter used() {
+        GridRouter router = new GridRouter(1, 0, 3, 0);
+        router.net(0, 0, 0, 0, 2, 0);
+        router.net(1, 0, 1, 1, 2, 1);
+        router.route(0);
+        router.block(0, 1, 1);
+        router.stitch(2, 1);
+        router.paint(0, 2, 0, -1);
+        return router;
+    }
+
+    /** "IndexOutOfBoundsException if there is no such net". */
+    private static void refusesWhatIsNoNet() {
+        for (int net : Edges.beyond(2)) {
+            due.refuses("rip(" + net + ")", IndexOutOfBoundsException.class, RipTest::used,
+                    router -> router.rip(net));
+        }
+        for (int net : Edges.beyond(0)) {
+            due.refuses("rip(" + net + ") without nets", IndexOutOfBoundsException.class,
+                    () -> new GridRouter(0, 0, 0, 0), router -> router.rip(net));
+        }
+        due.refuses("rip(6) of six", IndexOutOfBoundsException.class, Edges::sixNets, router -> router.rip(6));
     }
 }

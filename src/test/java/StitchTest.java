@@ -5,7 +5,9 @@ public final class StitchTest {
     public static void main(String[] args) {
         toggles();
         tellsEachPlace();
-        refuses();
+        stitchesEachPlaceTwice();
+        keepsTheCells();
+        refusesWhatIsNoPlace();
         due.end();
     }
 
@@ -45,13 +47,60 @@ public final class StitchTest {
         }
     }
 
-    private static void refuses() {
-        GridRouter router = new GridRouter(1, 0, 0, 0);
-        int[][] outside = {{-1, 0}, {3, 0}, {0, -1}, {0, 2}, {Integer.MAX_VALUE, 0}, {0, Integer.MIN_VALUE}};
-        for (int[] at : outside) {
-            due.fails("stitch outside", IndexOutOfBoundsException.class, () -> router.stitch(at[0], at[1]));
-            due.fails("via outside", IndexOutOfBoundsException.class, () -> router.via(at[0], at[1]));
+    /** "There is a via, or (if there was one) none: whether there is one then." */
+    private static void stitchesEachPlaceTwice() {
+        GridRouter router = new GridRouter(2, 1, 0, 1);
+        for (int y = 0; y < 3; y++) {
+            for (int x = 0; x < 4; x++) {
+                due.is("stitch" + Edges.told(x, y), router.stitch(x, y), true);
+            }
         }
-        due.is("nothing was stitched", router.faults(2), 0);
+        due.picture("all vias", router, 4, 3, ".... .... ####", ".... .... ####", ".... .... ####");
+        for (int y = 0; y < 3; y++) {
+            for (int x = 0; x < 4; x++) {
+                due.is("stitch again" + Edges.told(x, y), router.stitch(x, y), false);
+            }
+        }
+        due.picture("no vias", router, 4, 3, ".... .... ....", ".... .... ....", ".... .... ....");
+    }
+
+    private static GridRouter used() {
+        GridRouter router = new GridRouter(1, 0, 0, 0);
+        router.net(0, 0, 0, 1, 2, 1);
+        router.route(0);
+        router.block(0, 1, 1);
+        router.stitch(2, 0);
+        return router;
+    }
+
+    private static void keepsTheCells() {
+        GridRouter router = used();
+        String state = State.of(router);
+        for (int time = 0; time < 2; time++) {
+            for (int y = 0; y < 2; y++) {
+                for (int x = 0; x < 3; x++) {
+                    router.stitch(x, y);
+                }
+            }
+        }
+        due.is("stitched twice, all is as before", State.of(router), state);
+    }
+
+    /** "IndexOutOfBoundsException if there is no such place", for promises 9 and 11. */
+    private static void refusesWhatIsNoPlace() {
+        for (int[] at : Edges.noPlaces(3, 2)) {
+            due.refuses("stitch" + Edges.told(at), IndexOutOfBoundsException.class, StitchTest::used,
+                    router -> router.stitch(at[0], at[1]));
+            due.refuses("via" + Edges.told(at), IndexOutOfBoundsException.class, StitchTest::used,
+                    router -> router.via(at[0], at[1]));
+        }
+        GridRouter large = new GridRouter(7, 7, 0, 0);
+        for (int[] at : Edges.noPlaces(9, 9)) {
+            due.fails("stitch in the largest grid" + Edges.told(at), IndexOutOfBoundsException.class,
+                    () -> large.stitch(at[0], at[1]));
+            due.fails("via in the largest grid" + Edges.told(at), IndexOutOfBoundsException.class,
+                    () -> large.via(at[0], at[1]));
+        }
+        due.is("nothing was stitched", large.faults(2), 0);
     }
 }
