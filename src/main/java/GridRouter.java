@@ -585,8 +585,8 @@ public final class GridRouter {
             }
         }
 
-        // All are cleared before one has its pins back: a pin that another of them was
-        // painted over is that other one's cell until then, and a via there its via.
+        // All are cleared before one has its pins back: where a pin of one was painted with
+        // another one's number, a via is the other one's, and must go with it.
         private void stripPushedOut() {
             for (int other = 0; other < nets.count; other++) {
                 if (pushedOut[other]) {
